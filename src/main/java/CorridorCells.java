@@ -146,10 +146,6 @@ public final class CorridorCells {
         if (ground.barred[first] || ground.barred[last]) {
             return REFUSED;
         }
-        search.shareNothing();
-        for (int i = 0; i < foundCount; i++) {
-            search.share(found[i], first, last);
-        }
         long most = (oldest.length - 1) * above / below;
         return seek(first, last, (int) Math.min(SHARED_MOST, most));
     }
@@ -228,15 +224,17 @@ public final class CorridorCells {
         return foundCount < 1 || foundCount > FOUND_MOST ? null : found[foundCount - 1];
     }
 
+    /** Looks for a way; one that is found is at hand then, and its cells are shared from then on. */
     private int seek(int first, int last, int sharedMost) {
         int goal = search.close(first, last, sharedMost, lastNodes);
         lastBound = search.lastCost < 0 ? BAD : search.lastCost / SCALE;
         lastProved = goal != SPENT;
-        if (goal < 0) {
+        if (goal < 0 || foundCount >= FOUND_MOST) {
             return goal;
         }
         Way way = found[foundCount];
         search.trace(goal, way);
+        search.share(way);
         foundCount++;
         return way.length;
     }
@@ -581,10 +579,11 @@ public final class CorridorCells {
             }
         }
 
-        void share(Way way, int oneEnd, int otherEnd) {
+        /** The ends are left out by their cells, since a way may come to them in between too. */
+        void share(Way way) {
             for (int k = 0; k <= way.length; k++) {
                 int place = way.places[k];
-                shared[place] = place != oneEnd && place != otherEnd;
+                shared[place] = place != way.firstPlace() && place != way.lastPlace();
             }
         }
 
@@ -624,7 +623,8 @@ public final class CorridorCells {
         }
 
         private void openEnd() {
-            for (int heading = 0; heading < HEADINGS; heading += ground.headingStep()) {
+            int step = ground.headingStep();
+            for (int heading = 0; heading < HEADINGS; heading += step) {
                 queue.offer(rowOf(last, heading, 0, 0), 0, 0, codeOf(last, heading, 0, 0));
             }
         }
@@ -701,7 +701,8 @@ public final class CorridorCells {
         private int nextRow(int row) {
             int best = NOWHERE;
             int bestPlace = ground.size;
-            for (int heading = 0; heading < HEADINGS; heading += ground.headingStep()) {
+            int step = ground.headingStep();
+            for (int heading = 0; heading < HEADINGS; heading += step) {
                 int next = rowAfter(row, heading);
                 if (next >= 0 && queue.codeOf(next) / CELL_CODES < bestPlace) {
                     best = next;

@@ -1,0 +1,115 @@
+import java.io.IOException;
+import java.lang.reflect.Member;
+import java.lang.reflect.Method;
+import java.lang.reflect.Modifier;
+import java.nio.file.Files;
+import java.nio.file.Path;
+import java.util.List;
+import java.util.Set;
+import java.util.TreeSet;
+import java.util.regex.Matcher;
+import java.util.regex.Pattern;
+
+/** The face is that of the document, and the file keeps what of LANGUAGE.md can be seen by reading it. */
+public final class FaceTest {
+    private static final Check CHECK = new Check();
+    private static final String FACE = """
+        boolean cell(int,int,int,int)
+        boolean bar(int,int)
+        boolean moves(int,int,int)
+        boolean aim(int,int,int,long)
+        boolean weight(int,long,long)
+        int run(int,int,int,int,long)
+        int at(int,int)
+        long cost(int)
+        long bound()
+        boolean proved()
+        int unlike(long,long)
+        long span(int,int,int)
+        boolean bridge(int,int,int,long)
+        int mark(int,int,int,int)
+        int zone(int,int,int)
+        long sum(int)
+        int turns()
+        boolean keeps()
+        """;
+    private static final List<String> LEFT_OUT = List.of("->", "::", "try", "catch", "throw", "finally", "synchronized",
+        "assert", "System.out", "Exact(", "Random", "Thread", "instanceof", "Object ", "equals", "hashCode", "toString",
+        "double", "float", "Boolean.", "package ");
+
+    public static void main(String[] args) throws IOException {
+        faceIsThatOfTheDocument();
+        nothingElseIsSeen();
+        List<String> lines = Files.readAllLines(Path.of("src/main/java/CorridorCells.java"));
+        textKeepsTheRules(lines);
+        methodsAreShort(lines);
+        CHECK.end();
+    }
+
+    private static void faceIsThatOfTheDocument() {
+        Set<String> face = new TreeSet<>();
+        for (Method method : CorridorCells.class.getDeclaredMethods()) {
+            if (Modifier.isPublic(method.getModifiers())) {
+                String parameters = Pattern.compile("\\(.*\\)").matcher(method.toString()).results()
+                    .findFirst().orElseThrow().group();
+                face.add(method.getReturnType() + " " + method.getName() + parameters);
+                CHECK.due(method + " is of an object", Modifier.isStatic(method.getModifiers()), false);
+            }
+        }
+        CHECK.due("face " + face, face.equals(new TreeSet<>(FACE.lines().toList())), true);
+        CHECK.due("final", Modifier.isFinal(CorridorCells.class.getModifiers()), true);
+        CHECK.due("public", Modifier.isPublic(CorridorCells.class.getModifiers()), true);
+        CHECK.due("constructors", CorridorCells.class.getDeclaredConstructors().length, 1);
+        CHECK.due("constants", CorridorCells.class.getFields().length, 2);
+    }
+
+    private static void nothingElseIsSeen() {
+        Set<String> faceNames = new TreeSet<>();
+        FACE.lines().forEach(line -> faceNames.add(line.replaceAll("^\\S+ |\\(.*", "")));
+        for (Member member : CorridorCells.class.getDeclaredMethods()) {
+            int kind = member.getModifiers();
+            CHECK.due(member + " is public or private", Modifier.isPublic(kind) || Modifier.isPrivate(kind), true);
+            CHECK.due(member + " bears a name of its own",
+                Modifier.isPrivate(kind) && faceNames.contains(member.getName()), false);
+        }
+        for (Member member : CorridorCells.class.getDeclaredFields()) {
+            boolean isConstant = member.getName().equals("BAD") || member.getName().equals("SPENT");
+            CHECK.due(member + " is private", Modifier.isPrivate(member.getModifiers()), !isConstant);
+        }
+        for (Class<?> inside : CorridorCells.class.getDeclaredClasses()) {
+            CHECK.due(inside + " is static", Modifier.isStatic(inside.getModifiers()), true);
+            long fields = List.of(inside.getDeclaredFields()).stream()
+                .filter(field -> !Modifier.isStatic(field.getModifiers())).count();
+            CHECK.due(inside + " has few fields", fields <= 20, true);
+        }
+        CHECK.due("few classes", CorridorCells.class.getDeclaredClasses().length < 12, true);
+    }
+
+    private static void textKeepsTheRules(List<String> lines) {
+        for (int i = 0; i < lines.size(); i++) {
+            String line = lines.get(i).replaceAll("/\\*\\*.*|//.*", "");
+            for (String word : LEFT_OUT) {
+                CHECK.due("line " + (i + 1) + " has '" + word + "'", line.contains(word), false);
+            }
+            boolean isImport = line.startsWith("import ");
+            CHECK.due("line " + (i + 1) + " imports", isImport && !line.equals("import java.util.Arrays;"), false);
+        }
+    }
+
+    private static void methodsAreShort(List<String> lines) {
+        Pattern head = Pattern.compile("^( +)(?:[a-z]+ )*[\\w\\[\\]]+ ?\\w*\\(([^()]*)\\) \\{$");
+        int begun = -1;
+        String indent = "";
+        for (int i = 0; i < lines.size(); i++) {
+            Matcher matcher = head.matcher(lines.get(i));
+            if (begun < 0 && matcher.matches()) {
+                begun = i;
+                indent = matcher.group(1);
+                CHECK.due("parameters in line " + (i + 1), matcher.group(2).split(",").length <= 7, true);
+            } else if (begun >= 0 && lines.get(i).equals(indent + "}")) {
+                CHECK.due("lines of the method in line " + (begun + 1), i - begun < 60, true);
+                begun = -1;
+            }
+        }
+    }
+}
