@@ -6,7 +6,6 @@ import java.util.Set;
 
 /** On tiny grids all ways of few moves are written down, and the best one is compared with the one that was found. */
 public final class AllWaysTest {
-    private static final Check CHECK = new Check();
     private static final int LONGEST = 7;
 
     private final PlainCells plain;
@@ -29,10 +28,10 @@ public final class AllWaysTest {
 
     public static void main(String[] args) {
         int seeds = args.length > 0 ? Integer.parseInt(args[0]) : 3000;
-        for (int seed = 0; seed < seeds && !CHECK.hasWrong(); seed++) {
+        for (int seed = 0; seed < seeds && !Check.hasWrong(); seed++) {
             compare(seed);
         }
-        CHECK.end();
+        Check.end();
     }
 
     private static void compare(int seed) {
@@ -69,19 +68,19 @@ public final class AllWaysTest {
             int y = i / plain.w;
             int cost = random.nextInt(costs);
             int level = random.nextInt(3);
-            CHECK.due("cell", c.cell(x, y, cost, level), plain.cell(x, y, cost, level));
+            Check.due("cell", c.cell(x, y, cost, level), plain.cell(x, y, cost, level));
             int most = 1 + random.nextInt(3);
             if (random.nextInt(4) == 0) {
-                CHECK.due("bar", c.bar(x, y), plain.bar(x, y));
-                CHECK.due("bridge", c.bridge(x, y, most, cost), plain.bridge(x, y, most, cost));
+                Check.due("bar", c.bar(x, y), plain.bar(x, y));
+                Check.due("bridge", c.bridge(x, y, most, cost), plain.bridge(x, y, most, cost));
             }
-            CHECK.due("aim", c.aim(1, x, y, level), plain.aim(1, x, y, level));
+            Check.due("aim", c.aim(1, x, y, level), plain.aim(1, x, y, level));
         }
-        CHECK.due("weight", c.weight(1, costs - 1, 3), plain.weight(1, costs - 1, 3));
+        Check.due("weight", c.weight(1, costs - 1, 3), plain.weight(1, costs - 1, 3));
         int reach = 1 + random.nextInt(2);
         int slope = 1 + random.nextInt(3);
         int turn = random.nextInt(9);
-        CHECK.due("moves", c.moves(reach, slope, turn), plain.moves(reach, slope, turn));
+        Check.due("moves", c.moves(reach, slope, turn), plain.moves(reach, slope, turn));
     }
 
     private static PlainCells.Way atHand(CorridorCells c, int w, int moves) {
@@ -100,19 +99,19 @@ public final class AllWaysTest {
         headings.add(16);
         extend(0, 0, 0, 0);
         if (answer < 0) {
-            CHECK.due(what + " has no way of few moves", best == null, true);
+            Check.due(what + " has no way of few moves", best == null, true);
             return;
         }
         PlainCells.Way way = atHand(c, plain.w, answer);
-        CHECK.due(what + " is a way", plain.kept(way), true);
+        Check.due(what + " is a way", plain.kept(way), true);
         long[] found = {plain.wayCost(way, -1).longValueExact(), PlainCells.turnsOf(way), answer, sharedIn(way)};
-        CHECK.due(what + " shares no more than it may", found[3] <= sharedMost, true);
+        Check.due(what + " shares no more than it may", found[3] <= sharedMost, true);
         if (answer > LONGEST) {
-            CHECK.due(what + " is the best", best == null || isBetter(found, way.cells()), true);
+            Check.due(what + " is the best", best == null || isBetter(found, way.cells()), true);
             return;
         }
-        CHECK.due(what + " is found by writing all down", best != null, true);
-        CHECK.due(what + " has the cells of the best", way.cells().equals(bestCells), true);
+        Check.due(what + " is found by writing all down", best != null, true);
+        Check.due(what + " has the cells of the best", way.cells().equals(bestCells), true);
     }
 
     private long sharedIn(PlainCells.Way way) {

@@ -12,7 +12,6 @@ import java.util.regex.Pattern;
 
 /** The face is that of the document, and the file keeps what of LANGUAGE.md can be seen by reading it. */
 public final class FaceTest {
-    private static final Check CHECK = new Check();
     private static final String FACE = """
         boolean cell(int,int,int,int)
         boolean bar(int,int)
@@ -43,7 +42,7 @@ public final class FaceTest {
         List<String> lines = Files.readAllLines(Path.of("src/main/java/CorridorCells.java"));
         textKeepsTheRules(lines);
         methodsAreShort(lines);
-        CHECK.end();
+        Check.end();
     }
 
     private static void faceIsThatOfTheDocument() {
@@ -53,14 +52,14 @@ public final class FaceTest {
                 String parameters = Pattern.compile("\\(.*\\)").matcher(method.toString()).results()
                     .findFirst().orElseThrow().group();
                 face.add(method.getReturnType() + " " + method.getName() + parameters);
-                CHECK.due(method + " is of an object", Modifier.isStatic(method.getModifiers()), false);
+                Check.due(method + " is of an object", Modifier.isStatic(method.getModifiers()), false);
             }
         }
-        CHECK.due("face " + face, face.equals(new TreeSet<>(FACE.lines().toList())), true);
-        CHECK.due("final", Modifier.isFinal(CorridorCells.class.getModifiers()), true);
-        CHECK.due("public", Modifier.isPublic(CorridorCells.class.getModifiers()), true);
-        CHECK.due("constructors", CorridorCells.class.getDeclaredConstructors().length, 1);
-        CHECK.due("constants", CorridorCells.class.getFields().length, 2);
+        Check.due("face " + face, face.equals(new TreeSet<>(FACE.lines().toList())), true);
+        Check.due("final", Modifier.isFinal(CorridorCells.class.getModifiers()), true);
+        Check.due("public", Modifier.isPublic(CorridorCells.class.getModifiers()), true);
+        Check.due("constructors", CorridorCells.class.getDeclaredConstructors().length, 1);
+        Check.due("constants", CorridorCells.class.getFields().length, 2);
     }
 
     private static void nothingElseIsSeen() {
@@ -68,31 +67,31 @@ public final class FaceTest {
         FACE.lines().forEach(line -> faceNames.add(line.replaceAll("^\\S+ |\\(.*", "")));
         for (Member member : CorridorCells.class.getDeclaredMethods()) {
             int kind = member.getModifiers();
-            CHECK.due(member + " is public or private", Modifier.isPublic(kind) || Modifier.isPrivate(kind), true);
-            CHECK.due(member + " bears a name of its own",
+            Check.due(member + " is public or private", Modifier.isPublic(kind) || Modifier.isPrivate(kind), true);
+            Check.due(member + " bears a name of its own",
                 Modifier.isPrivate(kind) && faceNames.contains(member.getName()), false);
         }
         for (Member member : CorridorCells.class.getDeclaredFields()) {
             boolean isConstant = member.getName().equals("BAD") || member.getName().equals("SPENT");
-            CHECK.due(member + " is private", Modifier.isPrivate(member.getModifiers()), !isConstant);
+            Check.due(member + " is private", Modifier.isPrivate(member.getModifiers()), !isConstant);
         }
         for (Class<?> inside : CorridorCells.class.getDeclaredClasses()) {
-            CHECK.due(inside + " is static", Modifier.isStatic(inside.getModifiers()), true);
+            Check.due(inside + " is static", Modifier.isStatic(inside.getModifiers()), true);
             long fields = List.of(inside.getDeclaredFields()).stream()
                 .filter(field -> !Modifier.isStatic(field.getModifiers())).count();
-            CHECK.due(inside + " has few fields", fields <= 20, true);
+            Check.due(inside + " has few fields", fields <= 20, true);
         }
-        CHECK.due("few classes", CorridorCells.class.getDeclaredClasses().length < 12, true);
+        Check.due("few classes", CorridorCells.class.getDeclaredClasses().length < 12, true);
     }
 
     private static void textKeepsTheRules(List<String> lines) {
         for (int i = 0; i < lines.size(); i++) {
             String line = lines.get(i).replaceAll("/\\*\\*.*|//.*", "");
             for (String word : LEFT_OUT) {
-                CHECK.due("line " + (i + 1) + " has '" + word + "'", line.contains(word), false);
+                Check.due("line " + (i + 1) + " has '" + word + "'", line.contains(word), false);
             }
             boolean isImport = line.startsWith("import ");
-            CHECK.due("line " + (i + 1) + " imports", isImport && !line.equals("import java.util.Arrays;"), false);
+            Check.due("line " + (i + 1) + " imports", isImport && !line.equals("import java.util.Arrays;"), false);
         }
     }
 
@@ -105,9 +104,9 @@ public final class FaceTest {
             if (begun < 0 && matcher.matches()) {
                 begun = i;
                 indent = matcher.group(1);
-                CHECK.due("parameters in line " + (i + 1), matcher.group(2).split(",").length <= 7, true);
+                Check.due("parameters in line " + (i + 1), matcher.group(2).split(",").length <= 7, true);
             } else if (begun >= 0 && lines.get(i).equals(indent + "}")) {
-                CHECK.due("lines of the method in line " + (begun + 1), i - begun < 60, true);
+                Check.due("lines of the method in line " + (begun + 1), i - begun < 60, true);
                 begun = -1;
             }
         }

@@ -2,7 +2,6 @@ import java.util.Random;
 
 /** Runs of calls, always the same ones, whose answers are those of the plain model. */
 public final class PlainModelTest {
-    private static final Check CHECK = new Check();
 
     private final Random random;
     private final int seed;
@@ -20,12 +19,12 @@ public final class PlainModelTest {
     public static void main(String[] args) {
         int seeds = args.length > 0 ? Integer.parseInt(args[0]) : 600;
         int from = args.length > 1 ? Integer.parseInt(args[1]) : 0;
-        for (int seed = from; seed < from + seeds && !CHECK.hasWrong(); seed++) {
+        for (int seed = from; seed < from + seeds && !Check.hasWrong(); seed++) {
             Random sizes = new Random(seed * 31L + 7);
             int most = seed % 40 == 0 ? 12 : seed % 4 == 0 ? 6 : 4;
             new PlainModelTest(seed, sizes.nextInt(most + 1), 1 + sizes.nextInt(most)).play();
         }
-        CHECK.end();
+        Check.end();
     }
 
     private int x() {
@@ -56,7 +55,7 @@ public final class PlainModelTest {
         if (calls > 512) {
             return;
         }
-        CHECK.due("seed " + seed + " call " + calls + ": " + call, got, want);
+        Check.due("seed " + seed + " call " + calls + ": " + call, got, want);
     }
 
     private void due(String call, boolean got, boolean want) {

@@ -1,8 +1,5 @@
 /** For each promise of the document its ordinary answers, its edges and its refusals, worked out by hand. */
-public final class PromisesTest {
-    private static final Check CHECK = new Check();
-    private static final int FAR = 100000;
-
+public final class PromisesTest extends Check {
     public static void main(String[] args) {
         promise01NewObject();
         promise01Defaults();
@@ -33,38 +30,7 @@ public final class PromisesTest {
         promise17Sum();
         promise18Turns();
         promise19Keeps();
-        CHECK.end();
-    }
-
-    private static void due(String call, long got, long want) {
-        CHECK.due(call, got, want);
-    }
-
-    private static void yes(String call, boolean got) {
-        CHECK.due(call, got, true);
-    }
-
-    private static void no(String call, boolean got) {
-        CHECK.due(call, got, false);
-    }
-
-    private static void dueCost(String what, CorridorCells c, long upper, long lower) {
-        due(what + ": cost(0)", c.cost(0), upper);
-        due(what + ": cost(1)", c.cost(1), lower);
-    }
-
-    private static void dueSpan(String what, CorridorCells c, int aim, long[] ends) {
-        for (int i = 0; i < 4; i++) {
-            due(what + ": span(" + aim + ", " + i / 2 + ", " + i % 2 + ")", c.span(aim, i / 2, i % 2), ends[i]);
-        }
-    }
-
-    /** The cells of the way at hand are those of x, y, x, y, .. and no more. */
-    private static void dueWay(String what, CorridorCells c, int... xy) {
-        for (int i = 0; i < xy.length; i++) {
-            due(what + ": at(" + i / 2 + ", " + i % 2 + ")", c.at(i / 2, i % 2), xy[i]);
-        }
-        due(what + ": behind its end", c.at(xy.length / 2, 0), CorridorCells.BAD);
+        end();
     }
 
     private static void promise01NewObject() {
@@ -93,15 +59,15 @@ public final class PromisesTest {
         yes("weight(0, 20, 1)", row.weight(0, 20, 1));
         yes("cell(0, 0, 0, 50)", row.cell(0, 0, 0, 50));
         yes("moves(1, 49, 8)", row.moves(1, 49, 8));
-        due("23 labels of 24", row.run(0, 0, 3, 0, 23), CorridorCells.SPENT);
+        due("23 labels of 24", row.run(0, 0, 3, 0, 23), SPENT);
         due("24 labels of 24", row.run(0, 0, 3, 0, 24), -1);
         yes("moves(1, 49, 7)", row.moves(1, 49, 7));
-        due("21 labels of 22", row.run(0, 0, 3, 0, 21), CorridorCells.SPENT);
+        due("21 labels of 22", row.run(0, 0, 3, 0, 21), SPENT);
         due("22 labels of 22", row.run(0, 0, 3, 0, 22), -1);
         // where nothing is told, the turn is 8 too: cells 0 and 1 beside a barred one
         CorridorCells fresh = new CorridorCells(6, 1);
         yes("bar(2, 0)", fresh.bar(2, 0));
-        due("23 labels of 24", fresh.run(0, 0, 5, 0, 23), CorridorCells.SPENT);
+        due("23 labels of 24", fresh.run(0, 0, 5, 0, 23), SPENT);
         due("24 labels of 24", fresh.run(0, 0, 5, 0, 24), -1);
     }
 
@@ -305,26 +271,26 @@ public final class PromisesTest {
     private static void promise07RunLabels() {
         // closed: 8 of the end, one of the middle without a turn, then of the first cell heading 0, then 16
         CorridorCells c = new CorridorCells(3, 1);
-        due("10 labels", c.run(0, 0, 2, 0, 10), CorridorCells.SPENT);
-        due("no way at hand", c.turns(), CorridorCells.BAD);
+        due("10 labels", c.run(0, 0, 2, 0, 10), SPENT);
+        due("no way at hand", c.turns(), BAD);
         due("none is found", c.unlike(1, 1), -3);
         due("11 labels", c.run(0, 0, 2, 0, 11), 2);
-        due("1 label", c.run(0, 0, 2, 0, 1), CorridorCells.SPENT);
-        due("reach 2 has 16 of the end", c.moves(2, 9999, 8) ? c.run(0, 0, 2, 0, 18) : 0, CorridorCells.SPENT);
+        due("1 label", c.run(0, 0, 2, 0, 1), SPENT);
+        due("reach 2 has 16 of the end", c.moves(2, 9999, 8) ? c.run(0, 0, 2, 0, 18) : 0, SPENT);
         due("and one more is enough", c.run(0, 0, 2, 0, 19), 2);
         yes("bar(1, 0)", c.bar(1, 0));
-        due("only those of the end, one too few", c.run(0, 0, 2, 0, 15), CorridorCells.SPENT);
+        due("only those of the end, one too few", c.run(0, 0, 2, 0, 15), SPENT);
         due("all labels closed: there is none", c.run(0, 0, 2, 0, 16), -1);
-        due("no way at hand", c.at(0, 0), CorridorCells.BAD);
+        due("no way at hand", c.at(0, 0), BAD);
         // a bridged cell of most 3 has three labels by heading 0; the first cell follows from that of R 1 alone
         yes("bridge(1, 0, 3, 0)", c.bridge(1, 0, 3, 0));
-        due("16 of the end, 3 of the bridge, 1 of the first cell", c.run(0, 0, 2, 0, 20), CorridorCells.SPENT);
+        due("16 of the end, 3 of the bridge, 1 of the first cell", c.run(0, 0, 2, 0, 20), SPENT);
         due("and that without a heading", c.run(0, 0, 2, 0, 21), 2);
     }
 
     private static void promise08At() {
         CorridorCells c = new CorridorCells(4, 3);
-        due("at(0, 0) without a way", c.at(0, 0), CorridorCells.BAD);
+        due("at(0, 0) without a way", c.at(0, 0), BAD);
         yes("moves(2, 9999, 8)", c.moves(2, 9999, 8));
         due("run", c.run(3, 2, 0, 0, FAR), 2);
         int[][] places = {{3, 2, 16}, {1, 1, 9}, {0, 0, 10}};
@@ -332,23 +298,23 @@ public final class PromisesTest {
             for (int axis = 0; axis < 3; axis++) {
                 due("at(" + k + ", " + axis + ")", c.at(k, axis), places[k][axis]);
             }
-            due("at(" + k + ", -1)", c.at(k, -1), CorridorCells.BAD);
-            due("at(" + k + ", 3)", c.at(k, 3), CorridorCells.BAD);
+            due("at(" + k + ", -1)", c.at(k, -1), BAD);
+            due("at(" + k + ", 3)", c.at(k, 3), BAD);
         }
-        due("at(-1, 0)", c.at(-1, 0), CorridorCells.BAD);
-        due("at(3, 0)", c.at(3, 0), CorridorCells.BAD);
-        due("at(greatest, 0)", c.at(Integer.MAX_VALUE, 0), CorridorCells.BAD);
-        due("at(least, 0)", c.at(Integer.MIN_VALUE, 0), CorridorCells.BAD);
-        due("at(0, greatest)", c.at(0, Integer.MAX_VALUE), CorridorCells.BAD);
+        due("at(-1, 0)", c.at(-1, 0), BAD);
+        due("at(3, 0)", c.at(3, 0), BAD);
+        due("at(greatest, 0)", c.at(Integer.MAX_VALUE, 0), BAD);
+        due("at(least, 0)", c.at(Integer.MIN_VALUE, 0), BAD);
+        due("at(0, greatest)", c.at(0, Integer.MAX_VALUE), BAD);
     }
 
     private static void promise09Cost() {
         CorridorCells c = new CorridorCells(3, 1);
-        due("cost(0) without a way", c.cost(0), CorridorCells.BAD);
+        due("cost(0) without a way", c.cost(0), BAD);
         due("run", c.run(0, 0, 2, 0, FAR), 2);
         dueCost("nothing", c, 0, 1);
-        due("cost(-1)", c.cost(-1), CorridorCells.BAD);
-        due("cost(2)", c.cost(2), CorridorCells.BAD);
+        due("cost(-1)", c.cost(-1), BAD);
+        due("cost(2)", c.cost(2), BAD);
         yes("cell(1, 0, 3, 0)", c.cell(1, 0, 3, 0));
         yes("cell(0, 0, 8, 0)", c.cell(0, 0, 8, 0));
         dueCost("costs as they are now", c, 30, 1);
@@ -361,8 +327,8 @@ public final class PromisesTest {
         dueCost("a bridged one its cents alone", c, 60, 1);
         yes("bridge(2, 0, 1, 9)", c.bridge(2, 0, 1, 9));
         dueCost("a bridge where none is barred counts for nothing", c, 60, 1);
-        due("no run", c.run(0, 0, 2, 0, 1), CorridorCells.SPENT);
-        due("cost(0) behind it", c.cost(0), CorridorCells.BAD);
+        due("no run", c.run(0, 0, 2, 0, 1), SPENT);
+        due("cost(0) behind it", c.cost(0), BAD);
     }
 
     private static void promise10Bound() {
@@ -377,9 +343,9 @@ public final class PromisesTest {
         due("50 thirds are cut off", c.bound(), 16);
         yes("weight(0, 20, 1)", c.weight(0, 20, 1));
         due("bound() stays", c.bound(), 16);
-        due("labels of the end cost nothing", c.run(0, 0, 2, 0, 8), CorridorCells.SPENT);
+        due("labels of the end cost nothing", c.run(0, 0, 2, 0, 8), SPENT);
         due("bound()", c.bound(), 0);
-        due("the next one costs 200", c.run(0, 0, 2, 0, 9), CorridorCells.SPENT);
+        due("the next one costs 200", c.run(0, 0, 2, 0, 9), SPENT);
         due("bound()", c.bound(), 200);
         yes("bar(1, 0)", c.bar(1, 0));
         due("none", c.run(0, 0, 2, 0, FAR), -1);
@@ -395,12 +361,12 @@ public final class PromisesTest {
         yes("as before", c.proved());
         due("no other way", c.unlike(0, 1), -1);
         yes("that there is none", c.proved());
-        due("spent", c.run(0, 0, 2, 0, 5), CorridorCells.SPENT);
+        due("spent", c.run(0, 0, 2, 0, 5), SPENT);
         no("not known", c.proved());
         due("refused", c.unlike(1, 1), -3);
         no("still not known", c.proved());
         due("11 labels are enough at first", c.run(0, 0, 2, 0, 11), 2);
-        due("but not for a way that shares none", c.unlike(0, 1), CorridorCells.SPENT);
+        due("but not for a way that shares none", c.unlike(0, 1), SPENT);
         no("not known", c.proved());
         due("the way at hand stays", c.turns(), 0);
     }
@@ -483,33 +449,33 @@ public final class PromisesTest {
 
     private static void promise13Span() {
         CorridorCells c = new CorridorCells(3, 2);
-        due("span without a way", c.span(0, 0, 0), CorridorCells.BAD);
+        due("span without a way", c.span(0, 0, 0), BAD);
         yes("aim(0, 1, 0, 30)", c.aim(0, 1, 0, 30));
         yes("cell(1, 1, 6, 0)", c.cell(1, 1, 6, 0));
         due("the first way", c.run(0, 0, 2, 0, FAR), 2);
-        dueSpan("one way alone", c, 0, new long[] {0, 1, 1, 0});
+        dueSpan("one way alone", c, 0, 0, 1, 1, 0);
         due("the second way", c.unlike(0, 1), 3);
         dueWay("below", c, 0, 0, 0, 1, 1, 1, 2, 0);
-        dueSpan("60 against 300 w", c, 0, new long[] {1, 5, 1, 0});
-        dueSpan("another aim has no weight that helps", c, 1, new long[] {-1, 1, -1, 1});
+        dueSpan("60 against 300 w", c, 0, 1, 5, 1, 0);
+        dueSpan("another aim has no weight that helps", c, 1, -1, 1, -1, 1);
         yes("weight(0, 20, 1)", c.weight(0, 20, 1));
-        dueSpan("its own weight does not count", c, 0, new long[] {1, 5, 1, 0});
-        dueSpan("others do", c, 1, new long[] {0, 1, 1, 0});
+        dueSpan("its own weight does not count", c, 0, 1, 5, 1, 0);
+        dueSpan("others do", c, 1, 0, 1, 1, 0);
         yes("aim(0, 1, 1, 10)", c.aim(0, 1, 1, 10));
-        dueSpan("60 + 100 w against 300 w", c, 0, new long[] {3, 10, 1, 0});
+        dueSpan("60 + 100 w against 300 w", c, 0, 3, 10, 1, 0);
         yes("aim(0, 1, 1, 30)", c.aim(0, 1, 1, 30));
-        dueSpan("60 + 300 w against 300 w", c, 0, new long[] {-1, 1, -1, 1});
+        dueSpan("60 + 300 w against 300 w", c, 0, -1, 1, -1, 1);
         yes("cell(1, 0, 6, 0)", c.cell(1, 0, 6, 0));
-        dueSpan("as cheap for all", c, 0, new long[] {0, 1, 1, 0});
+        dueSpan("as cheap for all", c, 0, 0, 1, 1, 0);
         yes("aim(0, 1, 1, 40)", c.aim(0, 1, 1, 40));
-        dueSpan("as cheap for 0 alone", c, 0, new long[] {0, 1, 0, 1});
+        dueSpan("as cheap for 0 alone", c, 0, 0, 1, 0, 1);
         yes("cell(1, 0, 8, 0)", c.cell(1, 0, 8, 0));
-        dueSpan("60 + 400 w against 80 + 300 w", c, 0, new long[] {0, 1, 1, 5});
+        dueSpan("60 + 400 w against 80 + 300 w", c, 0, 0, 1, 1, 5);
         yes("cell(1, 0, 999, 0)", c.cell(1, 0, 999, 0));
-        dueSpan("above 20 too", c, 0, new long[] {0, 1, 993, 10});
+        dueSpan("above 20 too", c, 0, 0, 1, 993, 10);
         int[][] wrong = {{-1, 0, 0}, {4, 0, 0}, {0, -1, 0}, {0, 2, 0}, {0, 0, -1}, {0, 0, 2}};
         for (int[] w : wrong) {
-            due("span(" + w[0] + ", " + w[1] + ", " + w[2] + ")", c.span(w[0], w[1], w[2]), CorridorCells.BAD);
+            due("span(" + w[0] + ", " + w[1] + ", " + w[2] + ")", c.span(w[0], w[1], w[2]), BAD);
         }
     }
 
@@ -520,13 +486,13 @@ public final class PromisesTest {
         yes("aim(3, 1, 1, 5)", c.aim(3, 1, 1, 5));
         due("mark(6, 1, 1, 2)", c.mark(6, 1, 1, 2), 1);
         yes("cell(1, 0, 7, 0)", c.cell(1, 0, 7, 0));
-        dueSpan("14 times 25 w against 70", c, 3, new long[] {0, 1, 1, 5});
+        dueSpan("14 times 25 w against 70", c, 3, 0, 1, 1, 5);
         yes("bar(1, 1)", c.bar(1, 1));
-        dueSpan("a barred cell counts as before", c, 3, new long[] {0, 1, 1, 5});
+        dueSpan("a barred cell counts as before", c, 3, 0, 1, 1, 5);
         yes("bridge(1, 1, 1, 5)", c.bridge(1, 1, 1, 5));
-        dueSpan("on a bridge no aim counts, and 14 times 5 is 70", c, 3, new long[] {0, 1, 1, 0});
+        dueSpan("on a bridge no aim counts, and 14 times 5 is 70", c, 3, 0, 1, 1, 0);
         yes("bridge(1, 1, 1, 6)", c.bridge(1, 1, 1, 6));
-        dueSpan("84 is more than 70", c, 3, new long[] {-1, 1, -1, 1});
+        dueSpan("84 is more than 70", c, 3, -1, 1, -1, 1);
     }
 
     private static void promise14Bridge() {
@@ -601,7 +567,7 @@ public final class PromisesTest {
         int[][] wrong = {{-1, 1, 0, 1}, {8, 1, 0, 1}, {0, 2, 0, 1}, {0, -1, 0, 1}, {0, 1, 1, 1}, {0, 1, -1, 1},
             {0, 1, 0, -1}, {0, 1, 0, 4}, {Integer.MIN_VALUE, 1, 0, 1}, {16, 1, 0, 1}};
         for (int[] w : wrong) {
-            due("mark refused", c.mark(w[0], w[1], w[2], w[3]), CorridorCells.BAD);
+            due("mark refused", c.mark(w[0], w[1], w[2], w[3]), BAD);
         }
         for (int person = 0; person < 8; person++) {
             due("all persons", c.mark(person, 1, 0, 3), person < 7 ? person + 2 : 8);
@@ -619,7 +585,7 @@ public final class PromisesTest {
         due("zone(3, 1, 1)", c.zone(3, 1, 1), 0);
         int[][] wrong = {{-1, 1, 1}, {8, 1, 1}, {1, 2, 1}, {1, -1, 1}, {1, 1, 2}, {1, 1, -1}};
         for (int[] w : wrong) {
-            due("zone(" + w[0] + ", " + w[1] + ", " + w[2] + ")", c.zone(w[0], w[1], w[2]), CorridorCells.BAD);
+            due("zone(" + w[0] + ", " + w[1] + ", " + w[2] + ")", c.zone(w[0], w[1], w[2]), BAD);
         }
         due("refused ones change nothing", c.zone(3, 1, 1), 3);
         due("others are apart", c.zone(1, 0, 1), 0);
@@ -630,7 +596,7 @@ public final class PromisesTest {
         for (int x = 0; x < 4; x++) {
             yes("cell(x, 0, ..)", c.cell(x, 0, 1 << x, 0));
         }
-        due("sum(0) without a way", c.sum(0), CorridorCells.BAD);
+        due("sum(0) without a way", c.sum(0), BAD);
         due("run", c.run(0, 0, 3, 0, FAR), 3);
         due("the first one too", c.sum(0), 15);
         due("an empty zone", c.sum(7), 0);
@@ -638,8 +604,8 @@ public final class PromisesTest {
         due("zone(2, 2, 0)", c.zone(2, 2, 0), 0);
         due("sum(2)", c.sum(2), 5);
         due("sum(0)", c.sum(0), 10);
-        due("sum(-1)", c.sum(-1), CorridorCells.BAD);
-        due("sum(8)", c.sum(8), CorridorCells.BAD);
+        due("sum(-1)", c.sum(-1), BAD);
+        due("sum(8)", c.sum(8), BAD);
         yes("cell(2, 0, 100, 0)", c.cell(2, 0, 100, 0));
         due("costs as they are now", c.sum(2), 101);
         yes("aim(0, 2, 0, 9)", c.aim(0, 2, 0, 9));
@@ -662,7 +628,7 @@ public final class PromisesTest {
         }
         yes("cell(2, 2, 0, 10)", c.cell(2, 2, 0, 10));
         for (int i = 0; i < 36; i++) {
-            CHECK.due("bar", !on[i] && c.bar(i % 6, i / 6), !on[i]);
+            due("bar", !on[i] && c.bar(i % 6, i / 6), !on[i]);
         }
         yes("cell(2, 3, 5, 5)", c.cell(2, 3, 5, 5));
         yes("moves(1, 5, 2)", c.moves(1, 5, 2));
@@ -676,7 +642,7 @@ public final class PromisesTest {
 
     private static void promise18Turns() {
         CorridorCells c = new CorridorCells(4, 4);
-        due("turns() without a way", c.turns(), CorridorCells.BAD);
+        due("turns() without a way", c.turns(), BAD);
         due("run", c.run(0, 0, 0, 3, FAR), 3);
         due("the first move is no turn", c.turns(), 0);
         due("run", c.run(0, 0, 1, 3, FAR), 3);
@@ -690,8 +656,8 @@ public final class PromisesTest {
         due("run", c.run(0, 0, 0, 3, FAR), 4);
         dueWay("bent back", c, 0, 0, 1, 1, 2, 2, 1, 3, 0, 3);
         due("two turns", c.turns(), 2);
-        due("none", c.run(0, 0, 0, 3, 1), CorridorCells.SPENT);
-        due("turns() of none", c.turns(), CorridorCells.BAD);
+        due("none", c.run(0, 0, 0, 3, 1), SPENT);
+        due("turns() of none", c.turns(), BAD);
     }
 
     private static void promise19Keeps() {
@@ -720,7 +686,7 @@ public final class PromisesTest {
         yes("bridge(1, 0, 1, 0)", c.bridge(1, 0, 1, 0));
         no("a turn on a bridge", c.keeps());
         keepsOnBridges();
-        due("spent", c.run(0, 0, 3, 1, 1), CorridorCells.SPENT);
+        due("spent", c.run(0, 0, 3, 1, 1), SPENT);
         no("keeps() of none", c.keeps());
     }
 

@@ -2,13 +2,12 @@ import java.lang.management.ManagementFactory;
 
 /** The dearest 512 calls stay far within the room of one run, 7.3 million elements, and end soon. */
 public final class RoomTest {
-    private static final Check CHECK = new Check();
     private static final long BYTES_MOST = 8_000_000;
 
     public static void main(String[] args) {
         manyFurtherWays();
         moreBridgesEachTime();
-        CHECK.end();
+        Check.end();
     }
 
     private static long bytes() {
@@ -30,8 +29,8 @@ public final class RoomTest {
                 told &= c.unlike(1, 1) > 0;
             }
         }
-        CHECK.due("all ways are found", told, true);
-        CHECK.due("further ways take few bytes", bytes() - before < BYTES_MOST, true);
+        Check.due("all ways are found", told, true);
+        Check.due("further ways take few bytes", bytes() - before < BYTES_MOST, true);
     }
 
     /** Each bridge makes more labels, so that the rows grow again and again. */
@@ -46,7 +45,7 @@ public final class RoomTest {
                 told &= c.unlike(1, 1) != -3;
             }
         }
-        CHECK.due("bridges are told", told, true);
-        CHECK.due("bridges take few bytes", bytes() - before < BYTES_MOST, true);
+        Check.due("bridges are told", told, true);
+        Check.due("bridges take few bytes", bytes() - before < BYTES_MOST, true);
     }
 }
