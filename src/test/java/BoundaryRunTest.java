@@ -11,6 +11,7 @@ public final class BoundaryRunTest extends Check {
         refusedAtFirst();
         refusedAfterSpent();
         onlyOneIsFound();
+        cellsOfOthersAreNotShared();
         elseThereIsNone();
         placesOfAWay();
         placesOfALongWay();
@@ -175,6 +176,24 @@ public final class BoundaryRunTest extends Check {
         due("the way of those ends", c.unlike(1, 1), 2);
         due("from there", c.at(0, 0) * 10 + c.at(0, 1), 22);
         due("to there", c.at(2, 0) * 10 + c.at(2, 1), 2);
+    }
+
+    /** To the dear end it is 90 by either corner, of which one gets dearer by 10, and 126 athwart. */
+    private static void cellsOfOthersAreNotShared() {
+        of("Promise 7", "the only one that is FOUND");
+        for (int corner = 0; corner < 2; corner++) {
+            CorridorCells c = new CorridorCells(2, 2);
+            yes("a dear end", c.cell(1, 0, 9, 0));
+            yes("the other corner is dearer", c.cell(1 - corner, 1 - corner, 1, 0));
+            due("run", c.run(0, 1, 1, 0, FAR), 2);
+            dueWay("by this corner", c, 0, 1, corner, corner, 1, 0);
+            yes("now this corner is dearer", c.cell(corner, corner, 1, 0) && c.cell(1 - corner, 1 - corner, 0, 0));
+            due("run", c.run(0, 1, 1, 0, FAR), 2);
+            dueWay("by the other corner", c, 0, 1, 1 - corner, 1 - corner, 1, 0);
+            due("this corner is not shared any more", c.unlike(0, 1), 2);
+            dueWay("by this corner again", c, 0, 1, corner, corner, 1, 0);
+            due("athwart", c.unlike(0, 1), 1);
+        }
     }
 
     private static void dueNoWay(String what, CorridorCells c) {

@@ -482,6 +482,12 @@ public final class BoundaryTermsTest extends Check {
         due("15 of 16", c.unlike(0, 1), SPENT);
         due("16 labels", c.run(0, 0, 2, 0, 16), 2);
         due("16 of 16", c.unlike(0, 1), NONE);
+        for (int labels = 17; labels <= 18; labels++) {
+            yes("cell(1, 0, 0, 0)", c.cell(1, 0, 0, 0));
+            due("run", c.run(0, 0, 2, 0, labels), 2);
+            yes("cell(1, 0, 1, 0)", c.cell(1, 0, 1, 0));
+            due("8 of the end, 8 between, 2 of the first cell", c.unlike(1, 1), labels < 18 ? SPENT : 2);
+        }
     }
 
     private static void bestOfALabel() {

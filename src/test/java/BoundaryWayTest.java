@@ -8,6 +8,8 @@ public final class BoundaryWayTest extends Check {
         spanWithOtherWeights();
         spanAgainstAllWays();
         spanOfOneWeight();
+        spanOfWeightsCloseBy();
+        spanOfTheEnds();
         spanAsCostsAreNow();
         spanWithMarksAndBridges();
         spanInLeastTerms();
@@ -115,6 +117,40 @@ public final class BoundaryWayTest extends Check {
         dueSpan("a little less: none", c, 0, -1, 1, -1, 1);
         tell(c, 1, 0, 2, 30);
         dueSpan("a little more: a few", c, 0, 3, 20, 1, 5);
+    }
+
+    private static void spanOfWeightsCloseBy() {
+        of("Promise 13", "the least (end 0) or greatest (1) one");
+        CorridorCells c = threeWays();
+        tell(c, 0, 2, 8, 0);
+        tell(c, 1, 0, 3, 13);
+        tell(c, 1, 1, 0, 15);
+        dueSpan("at least 5 / 13 and 8 / 21", c, 0, 5, 13, 1, 0);
+        tell(c, 1, 0, 0, 21);
+        tell(c, 1, 1, 0, 14);
+        dueSpan("at least 8 / 21 and 20 / 49", c, 0, 20, 49, 1, 0);
+        tell(c, 0, 2, 0, 13);
+        tell(c, 1, 0, 5, 0);
+        tell(c, 1, 1, 4, 0);
+        dueSpan("at most 5 / 13 and 28 / 65", c, 0, 0, 1, 5, 13);
+        tell(c, 1, 0, 6, 0);
+        dueSpan("at most 6 / 13 and 28 / 65", c, 0, 0, 1, 28, 65);
+    }
+
+    /** The way at hand comes to the end by a length of 14, the first one by 10. */
+    private static void spanOfTheEnds() {
+        of("Promise 13", "by costs as they are now");
+        CorridorCells c = new CorridorCells(3, 2);
+        due("run", c.run(0, 0, 2, 0, FAR), 2);
+        due("the second", c.unlike(0, 1), 2);
+        tell(c, 0, 0, 999, 999);
+        dueSpan("the first cell counts for none", c, 0, 0, 1, 1, 0);
+        tell(c, 2, 0, 0, 10);
+        dueSpan("140 w against 100 w", c, 0, 0, 1, 0, 1);
+        tell(c, 1, 0, 4, 0);
+        dueSpan("140 w against 40 + 100 w", c, 0, 0, 1, 1, 1);
+        tell(c, 2, 0, 10, 10);
+        dueSpan("140 + 140 w against 140 + 100 w", c, 0, 0, 1, 0, 1);
     }
 
     private static void spanAsCostsAreNow() {
@@ -399,7 +435,8 @@ public final class BoundaryWayTest extends Check {
         }
         CorridorCells apart = new CorridorCells(5, 1);
         due("run", apart.run(0, 0, 4, 0, FAR), 4);
-        yes("two with one between", apart.bridge(1, 0, 1, 0) && apart.bridge(3, 0, 1, 0) && apart.bar(1, 0) && apart.bar(3, 0));
+        yes("one", apart.bridge(1, 0, 1, 0) && apart.bar(1, 0));
+        yes("and one behind the next", apart.bridge(3, 0, 1, 0) && apart.bar(3, 0));
         yes("they are not counted together", apart.keeps());
     }
 

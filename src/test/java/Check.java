@@ -82,7 +82,8 @@ class Check {
     }
 
     static void end() {
-        System.out.println(wrong == 0 ? looked + " answers are as due" : wrong + " of " + looked + " answers are not as due");
+        String all = looked + (wrong == 0 ? " answers are as due" : " answers are not as due");
+        System.out.println(wrong == 0 ? all : wrong + " of " + all);
         if (wrong != 0) {
             System.exit(1);
         }

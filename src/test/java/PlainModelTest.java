@@ -17,7 +17,7 @@ public final class PlainModelTest {
     }
 
     public static void main(String[] args) {
-        int seeds = args.length > 0 ? Integer.parseInt(args[0]) : 600;
+        int seeds = args.length > 0 ? Integer.parseInt(args[0]) : 2500;
         int from = args.length > 1 ? Integer.parseInt(args[1]) : 0;
         for (int seed = from; seed < from + seeds && !Check.hasWrong(); seed++) {
             Random sizes = new Random(seed * 31L + 7);
