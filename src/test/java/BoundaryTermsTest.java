@@ -4,9 +4,12 @@ public final class BoundaryTermsTest extends Check {
         callsUpToTheLast();
         cellsOfTheGrid();
         numbersOfCells();
+        limitsOfCells();
+        limitsOfBridges();
         barredAndBridged();
         bridgeOnOthers();
         aimsAtFirst();
+        marksOfPersons();
         valueWithAllMarks();
         headingsAllRound();
         headingsAtTheEdges();
@@ -30,6 +33,7 @@ public final class BoundaryTermsTest extends Check {
         lesserCell();
         labelsByHeadings();
         labelsOfBridges();
+        labelsBehindBridges();
         labelsWithAnEnd();
         labelsOfSharedCells();
         bestOfALabel();
@@ -74,6 +78,31 @@ public final class BoundaryTermsTest extends Check {
         yes("moves(1, 5, 8)", c.moves(1, 5, 8));
         due("run", c.run(1, 0, 1, 1, FAR), 2);
         dueWay("the lesser number", c, 1, 0, 2, 0, 1, 1);
+    }
+
+    private static void limitsOfCells() {
+        of("Terms", "A cell has a COST 0 .. 999, a LEVEL 0 .. 9,999");
+        CorridorCells c = new CorridorCells(1, 1);
+        for (int cost = -2; cost <= 1001; cost++) {
+            due("cell(0, 0, " + cost + ", 0)", c.cell(0, 0, cost, 0), cost >= 0 && cost <= 999);
+        }
+        CorridorCells d = new CorridorCells(1, 1);
+        int[] levels = {-2, -1, 0, 1, 999, 1000, 9998, 9999, 10000, 10001};
+        for (int level : levels) {
+            due("cell(0, 0, 0, " + level + ")", d.cell(0, 0, 0, level), level >= 0 && level <= 9999);
+        }
+    }
+
+    private static void limitsOfBridges() {
+        of("Terms", "may have a BRIDGE (a MOST 1 .. 3, and CENTS 0 .. 9,999)");
+        CorridorCells c = new CorridorCells(1, 1);
+        for (int most = -2; most <= 6; most++) {
+            due("bridge(0, 0, " + most + ", 0)", c.bridge(0, 0, most, 0), most >= 1 && most <= 3);
+        }
+        long[] cents = {-2, -1, 0, 1, 999, 1000, 9998, 9999, 10000, 10001};
+        for (long told : cents) {
+            due("bridge(0, 0, 1, " + told + ")", c.bridge(0, 0, 1, told), told >= 0 && told <= 9999);
+        }
     }
 
     private static void barredAndBridged() {
@@ -127,6 +156,19 @@ public final class BoundaryTermsTest extends Check {
             dueCost("weights are 0", d, 0, 1);
             yes("weight(aim, 20, 1)", d.weight(aim, 20, 1));
             dueCost("the greatest of both", d, 10 * 20 * 999, 1);
+        }
+    }
+
+    private static void marksOfPersons() {
+        of("Terms", "PERSONS 0 .. 7 put MARKS of kinds 0 .. 3 on cells (0: none)");
+        CorridorCells c = new CorridorCells(1, 1);
+        for (int person = -2; person <= 9; person++) {
+            boolean isPerson = person >= 0 && person <= 7;
+            for (int kind = -2; kind <= 5; kind++) {
+                int due = !isPerson || kind < 0 || kind > 3 ? BAD : kind == 0 ? 0 : 1;
+                due("mark(" + person + ", 0, 0, " + kind + ")", c.mark(person, 0, 0, kind), due);
+            }
+            due("its mark goes", c.mark(person, 0, 0, 0), isPerson ? 0 : BAD);
         }
     }
 
@@ -459,6 +501,13 @@ public final class BoundaryTermsTest extends Check {
         dueLabels("two bridges", drawn(".33."), new int[] {0, 0, 3, 0}, 8 + 3 + 2 + 2, 3);
         dueLabels("a lesser first one", drawn(".13."), new int[] {0, 0, 3, 0}, 8 + 3 + 1 + 2, 3);
         dueLabels("a lesser second one", drawn(".32."), new int[] {0, 0, 3, 0}, 8 + 2 + 1 + 2, 3);
+    }
+
+    private static void labelsBehindBridges() {
+        of("Terms", "(a move into a bridged cell makes R one more, another one makes it 0)");
+        // 8 of the end, of each bridge R 1 and 2, but before it only a label that has none, 2 of the first cell
+        dueLabels("R begins anew", drawn(".2.2."), new int[] {0, 0, 4, 0}, 8 + 2 + 1 + 2 + 2, 4);
+        dueLabels("R goes on", drawn(".22."), new int[] {0, 0, 3, 0}, 8 + 2 + 1 + 2, 3);
     }
 
     private static void labelsWithAnEnd() {

@@ -1,8 +1,9 @@
 import java.lang.management.ManagementFactory;
 
-/** The dearest 512 calls stay far within the room of one run, 7.3 million elements, and end soon. */
+/** The dearest 512 calls stay within the room of one run, 7.3 million elements, and end soon. */
 public final class RoomTest {
-    private static final long BYTES_MOST = 8_000_000;
+    /** 8 bytes for each element of the room. */
+    private static final long BYTES_MOST = 8 * 7_300_000;
 
     public static void main(String[] args) {
         manyFurtherWays();
