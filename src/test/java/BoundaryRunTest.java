@@ -98,11 +98,12 @@ public final class BoundaryRunTest extends Check {
 
     /** Calls that are refused on a grid of 3 by 2 with (2, 1) barred and bridged; the last number is nodes. */
     private static void refuseAll(CorridorCells c) {
-        int[][] ends = {{-1, 0, 2, 0}, {3, 0, 2, 0}, {0, -1, 2, 0}, {0, 2, 2, 0}, {0, 0, -1, 0}, {0, 0, 3, 0}, {0, 0, 2, -1},
-            {0, 0, 2, 2}, {LEAST, 0, 2, 0}, {0, GREATEST, 2, 0}, {0, 0, GREATEST, 0}, {0, 0, 2, LEAST}, {3, 0, 3, 0},
+        int[][] ends = {{-1, 0, 2, 0}, {3, 0, 2, 0}, {0, -1, 2, 0}, {0, 2, 2, 0}, {0, 0, -1, 0}, {0, 0, 3, 0},
+            {0, 0, 2, -1}, {0, 0, 2, 2}, {LEAST, 0, 2, 0}, {0, GREATEST, 2, 0}, {0, 0, GREATEST, 0}, {0, 0, 2, LEAST}, {3, 0, 3, 0},
             {0, 0, 0, 0}, {2, 0, 2, 0}, {0, 0, 2, 1}, {2, 1, 0, 0}, {2, 1, 2, 1}};
         for (int[] e : ends) {
-            due("run from " + e[0] + ", " + e[1] + " to " + e[2] + ", " + e[3], c.run(e[0], e[1], e[2], e[3], FAR), REFUSED);
+            String call = "run(" + e[0] + ", " + e[1] + ", " + e[2] + ", " + e[3] + ", ..)";
+            due(call, c.run(e[0], e[1], e[2], e[3], FAR), REFUSED);
         }
         long[] nodes = {0, -1, 100001, Long.MIN_VALUE, Long.MAX_VALUE, 1L << 32, (1L << 32) + 20};
         for (long told : nodes) {

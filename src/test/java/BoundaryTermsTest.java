@@ -83,13 +83,10 @@ public final class BoundaryTermsTest extends Check {
     private static void limitsOfCells() {
         of("Terms", "A cell has a COST 0 .. 999, a LEVEL 0 .. 9,999");
         CorridorCells c = new CorridorCells(1, 1);
-        for (int cost = -2; cost <= 1001; cost++) {
-            due("cell(0, 0, " + cost + ", 0)", c.cell(0, 0, cost, 0), cost >= 0 && cost <= 999);
-        }
-        CorridorCells d = new CorridorCells(1, 1);
-        int[] levels = {-2, -1, 0, 1, 999, 1000, 9998, 9999, 10000, 10001};
-        for (int level : levels) {
-            due("cell(0, 0, 0, " + level + ")", d.cell(0, 0, 0, level), level >= 0 && level <= 9999);
+        int[] numbers = {-2, -1, 0, 1, 998, 999, 1000, 1001, 9998, 9999, 10000, 10001};
+        for (int number : numbers) {
+            due("cell(0, 0, " + number + ", 0)", c.cell(0, 0, number, 0), number >= 0 && number <= 999);
+            due("cell(0, 0, 0, " + number + ")", c.cell(0, 0, 0, number), number >= 0 && number <= 9999);
         }
     }
 

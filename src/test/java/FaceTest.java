@@ -33,8 +33,9 @@ public final class FaceTest {
         boolean keeps()
         """;
     /** What rules 4, 6, 12 and 13 leave out of the language and its library. */
-    private static final List<String> LEFT_OUT = List.of("::", "finally", "synchronized", "assert ", "getMessage", "System.out",
-        "System.nano", "System.current", "Exact(", "Random", "Thread", "Runtime.", "HashMap", "HashSet", "Optional", "Stream");
+    private static final List<String> LEFT_OUT = List.of("::", "finally", "synchronized", "assert ", "getMessage",
+        "System.out", "System.nano", "System.current", "Exact(", "Random", "Thread", "Runtime.", "HashMap", "HashSet",
+        "Optional", "Stream");
     private static final Pattern LIBRARY =
         Pattern.compile("import java\\.util\\.(ArrayList|Arrays|Iterator|List|NoSuchElementException);");
 

@@ -23,7 +23,8 @@ public final class SentencesTest {
         Map<String, List<String>> sentences = sentences(Files.readString(DOCUMENT));
         List<Quote> quotes = quotes();
         for (Quote quote : quotes) {
-            boolean stands = sentences.getOrDefault(quote.part, List.of()).stream().anyMatch(s -> s.contains(quote.words));
+            List<String> all = sentences.getOrDefault(quote.part, List.of());
+            boolean stands = all.stream().anyMatch(sentence -> sentence.contains(quote.words));
             Check.due(quote + " stands in the document", stands, true);
         }
         sentences.forEach((part, all) -> {
